@@ -33,8 +33,8 @@ public final class LeadFaults {
     private static final int HARSH = 3;
     private static final int[] QUALITY_BY_HEIGHT = {0, HARSH, HARSH, 0, 0, 0, HARSH, 0, 0, 0, HARSH, HARSH};
 
-    private static final int[] LEAST_STEPWISE = {0, 1, 3, 5, 7, 8, 10};
-    private static final int[] MOST_STEPWISE = {0, 2, 4, 5, 7, 9, 11};
+    private static final int[] LEAST_HEIGHT_OF_STEPS = {0, 1, 3, 5, 7, 8, 10};
+    private static final int[] MOST_HEIGHT_OF_STEPS = {0, 2, 4, 5, 7, 9, 11};
 
     private static final int PARALLEL = 0;
     private static final int CONTRARY = 1;
@@ -764,7 +764,7 @@ public final class LeadFaults {
             }
             int overOctaves = h - OCTAVE * (s / LETTERS);
             int letters = s % LETTERS;
-            return overOctaves < LEAST_STEPWISE[letters] || overOctaves > MOST_STEPWISE[letters];
+            return overOctaves < LEAST_HEIGHT_OF_STEPS[letters] || overOctaves > MOST_HEIGHT_OF_STEPS[letters];
         }
 
         private void lookAtTwo(int a, int b) {

@@ -30,6 +30,7 @@ public final class EventsTest {
     }
 
     private static void asAtFirst(String name, LeadFaults x) {
+        DUE.same(name + " moments at once", x.moments(), 0);
         for (int voice = 0; voice < 3; voice++) {
             DUE.same(name + " event", x.event(voice, 0, 0), LeadFaults.BAD);
             DUE.same(name + " take", x.take(voice), LeadFaults.NONE);
@@ -55,7 +56,11 @@ public final class EventsTest {
         x.take(1);
         x.note(0, 5, 0, 0);
         x.note(1, 7, 55, 1);
-        DUE.same(name + " no faults", Score.faults(x, 6), "");
+        x.note(2, 9, 0, -1);
+        x.note(2, 11, 0, 0);
+        x.note(2, 13, 55, 1);
+        x.note(2, 15, 55, 2);
+        DUE.same(name + " limits", Score.faults(x, 6), "9:2 15:2");
     }
 
     private static void clearing() {
@@ -64,13 +69,15 @@ public final class EventsTest {
         x.key(3);
         x.style(3);
         x.range(0, 50, 60);
+        x.range(1, -2, 99);
+        x.range(2, -2, -2);
         x.grid(10);
         x.repeat(0, 20);
         x.except(0, 10);
         x.judge();
         DUE.same("clear", x.clear(), 6);
         asAtFirst("cleared", x);
-        DUE.same("clear again", x.clear(), 2);
+        DUE.same("clear again", x.clear(), 6);
         DUE.same("clear of nothing", x.clear(), 0);
     }
 

@@ -120,6 +120,12 @@ public final class JudgeTest {
         x.judge();
         DUE.same("by time, not by number", x.count(15), 2);
         DUE.same("by time, not by number", x.count(14), 0);
+        LeadFaults y = Score.of("C3 D3 | B3 C4 | B4 A4");
+        y.except(8, 10);
+        y.except(9, 0);
+        DUE.same("each kind by itself", y.judge(), 1);
+        DUE.same("each kind by itself", Score.told(y), "1/10:1");
+        DUE.same("each kind by itself", y.count(15), 2);
     }
 
     private static void repeatPairs() {

@@ -134,6 +134,9 @@ public final class KindsTest {
         DUE.same("repeats do not count", Score.faults(x, 6), "0:1 20:1");
         x.range(1, 36, 40);
         DUE.same("the limits are inside", Score.faults(x, 6), "");
+        LeadFaults held = Score.of("Cb0 . | C1 D1");
+        DUE.same("judged once", Score.faults(held, 6), "0:0");
+        DUE.same("judged twice", Score.faults(held, 6), "0:0");
     }
 
     private static void leaps() {
@@ -145,7 +148,7 @@ public final class KindsTest {
         String[] leaps = {"C3 F#3", "C3 Gb3", "C3 Bb3", "C3 B3", "C3 A#3", "C3 Cb4", "C3 C#4", "C3 D4", "C3 C5",
             "C3 D#3", "C3 Ebb3", "C3 E#3", "C3 Fb3", "C3 G#3", "C3 Abb3", "C3 A##3", "C3 Dbb3", "C3 Dbb4",
             "C3 B#3", "C3 C#3", "C#3 C3", "F#3 C3", "Gb3 C3", "B3 C3", "D4 C3", "D#3 C3", "E##3 Fbb3", "C#3 C4",
-            "Fbb3 E##3", "C3 Gb4", "C3 G4", "C3 B4"};
+            "Fbb3 E##3", "C3 Gb4", "C3 G4", "C3 B4", "C3 Bbb3"};
         for (String score : leaps) {
             due(7, score + " | -", "10:0");
         }
