@@ -575,8 +575,9 @@ public final class LeadFaults {
 
         /** No FAULT names a VOICE twice, so b = a is free to stand for none. */
         void mark(int moment, int kind, int a, int b) {
-            if (within(moment, 0, moments - 1) && isKind(kind)) {
-                marks[moment * KINDS + kind] |= 1 << (a * MOST_VOICES + b);
+            int cell = moment * KINDS + kind;
+            if (cell >= 0 && cell < marks.length) {
+                marks[cell] |= 1 << (a * MOST_VOICES + b);
             }
         }
 

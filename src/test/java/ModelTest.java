@@ -2,7 +2,8 @@ import java.util.Random;
 
 /** All promises: long runs of mixed calls, each answer held against that of the Model. */
 public final class ModelTest {
-    private static final int RUNS = 600;
+    private static final int RUNS = 2000;
+    /** What an object answers after its 512th call is free. */
     private static final int CALLS = 512;
     private static final int[] EDGES = {Integer.MIN_VALUE, -101, -100, -8, -7, -3, -2, -1, 0, 1, 2, 3, 4, 5, 6, 7, 8, 9,
         10, 13, 14, 15, 16, 20, 23, 24, 25, 55, 56, 96, 99, 100, 119, 120, 500, 501, 998, 999, 1000, Integer.MAX_VALUE};
@@ -17,9 +18,12 @@ public final class ModelTest {
     private final int sharps;
     private final int pace;
     private final int[] lastTimes = new int[5];
+    private final int seed;
+    private int calls;
     private int kindsSeen;
 
     private ModelTest(int seed) {
+        this.seed = seed;
         random = new Random(seed);
         int asked = seed % 8;
         lead = new LeadFaults(asked);
@@ -34,8 +38,8 @@ public final class ModelTest {
         int kindsSeen = 0;
         for (int seed = 0; seed < RUNS && wrong < 20; seed++) {
             ModelTest run = new ModelTest(seed);
-            for (int call = 0; call < CALLS; call++) {
-                run.call(seed, call);
+            while (run.calls < CALLS) {
+                run.call();
             }
             kindsSeen |= run.kindsSeen;
         }
@@ -69,20 +73,20 @@ public final class ModelTest {
         return time;
     }
 
-    private void call(int seed, int call) {
+    private void call() {
         int dice = random.nextInt(100);
         if (dice < 40) {
-            sing(seed, call);
+            sing();
         } else if (dice < 60) {
-            set(seed, call);
+            set();
         } else if (dice < 90) {
-            ask(seed, call);
+            ask();
         } else {
-            judgeAndTell(seed, call);
+            judgeAndTell();
         }
     }
 
-    private void sing(int seed, int call) {
+    private void sing() {
         int voice = voice();
         int dice = random.nextInt(100);
         if (dice < 82) {
@@ -90,110 +94,114 @@ public final class ModelTest {
             int ground = Math.max(0, Math.min(4, voice)) * Math.min(8, spread);
             int step = ground + any(0, spread) + (random.nextInt(30) == 0 ? 20 : 0);
             int sharpness = any(-sharps, sharps);
-            due(seed, call, "note(" + voice + ", " + time + ", " + step + ", " + sharpness + ")",
+            due("note(" + voice + ", " + time + ", " + step + ", " + sharpness + ")",
                     lead.note(voice, time, step, sharpness), model.note(voice, time, step, sharpness));
         } else if (dice < 90) {
             int time = nextTime(voice);
-            due(seed, call, "rest(" + voice + ", " + time + ")", lead.rest(voice, time), model.rest(voice, time));
+            due("rest(" + voice + ", " + time + ")", lead.rest(voice, time), model.rest(voice, time));
         } else if (dice < 99 || random.nextInt(4) > 0) {
-            due(seed, call, "take(" + voice + ")", lead.take(voice), model.take(voice));
+            due("take(" + voice + ")", lead.take(voice), model.take(voice));
         } else {
-            due(seed, call, "clear()", lead.clear(), model.clear());
+            due("clear()", lead.clear(), model.clear());
             for (int i = 0; i < lastTimes.length; i++) {
                 lastTimes[i] = 0;
             }
         }
     }
 
-    private void set(int seed, int call) {
+    private void set() {
         int x = 0;
         int y = 0;
         switch (random.nextInt(8)) {
             case 0 -> {
                 x = any(0, 13);
                 y = any(0, 1);
-                due(seed, call, "rule(" + x + ", " + y + ")", lead.rule(x, y), model.rule(x, y));
+                due("rule(" + x + ", " + y + ")", lead.rule(x, y), model.rule(x, y));
             }
             case 1 -> {
                 x = random.nextBoolean() ? 0 : any(0, 4);
-                due(seed, call, "style(" + x + ")", lead.style(x), model.style(x));
+                due("style(" + x + ")", lead.style(x), model.style(x));
             }
             case 2, 3 -> {
                 x = any(-7, 7);
-                due(seed, call, "key(" + x + ")", lead.key(x), model.key(x));
+                due("key(" + x + ")", lead.key(x), model.key(x));
             }
             case 4 -> {
                 int voice = voice();
                 x = any(-2, 60);
                 y = any(0, 99);
-                due(seed, call, "range(" + voice + ", " + x + ", " + y + ")", lead.range(voice, x, y),
+                due("range(" + voice + ", " + x + ", " + y + ")", lead.range(voice, x, y),
                         model.range(voice, x, y));
             }
             case 5 -> {
                 x = random.nextInt(3) > 0 ? 0 : any(10, random.nextBoolean() ? 30 : 500);
-                due(seed, call, "grid(" + x + ")", lead.grid(x), model.grid(x));
+                due("grid(" + x + ")", lead.grid(x), model.grid(x));
             }
             case 6 -> {
                 x = any(0, 24 * pace);
                 y = any(0, 24 * pace);
-                due(seed, call, "repeat(" + x + ", " + y + ")", lead.repeat(x, y), model.repeat(x, y));
+                due("repeat(" + x + ", " + y + ")", lead.repeat(x, y), model.repeat(x, y));
             }
             default -> {
                 x = any(0, 13);
                 y = any(0, 12 * pace);
-                due(seed, call, "except(" + x + ", " + y + ")", lead.except(x, y), model.except(x, y));
+                due("except(" + x + ", " + y + ")", lead.except(x, y), model.except(x, y));
             }
         }
     }
 
-    private void ask(int seed, int call) {
+    private void ask() {
         int voice = voice();
         int other = voice();
         int moment = any(0, 120);
         switch (random.nextInt(7)) {
-            case 0 -> due(seed, call, "moments()", lead.moments(), model.moments());
-            case 1 -> due(seed, call, "time(" + moment + ")", lead.time(moment), model.time(moment));
-            case 2 -> due(seed, call, "height(" + voice + ", " + moment + ")", lead.height(voice, moment),
+            case 0 -> due("moments()", lead.moments(), model.moments());
+            case 1 -> due("time(" + moment + ")", lead.time(moment), model.time(moment));
+            case 2 -> due("height(" + voice + ", " + moment + ")", lead.height(voice, moment),
                     model.height(voice, moment));
-            case 3 -> due(seed, call, "interval(" + voice + ", " + other + ", " + moment + ")",
+            case 3 -> due("interval(" + voice + ", " + other + ", " + moment + ")",
                     lead.interval(voice, other, moment), model.interval(voice, other, moment));
             case 4 -> {
                 int i = any(0, 24);
                 int what = any(0, 2);
-                due(seed, call, "event(" + voice + ", " + i + ", " + what + ")", lead.event(voice, i, what),
+                due("event(" + voice + ", " + i + ", " + what + ")", lead.event(voice, i, what),
                         model.event(voice, i, what));
             }
             case 5 -> {
                 int i = any(0, 200);
                 int what = any(0, 4);
-                due(seed, call, "fault(" + i + ", " + what + ")", lead.fault(i, what), model.fault(i, what));
+                due("fault(" + i + ", " + what + ")", lead.fault(i, what), model.fault(i, what));
             }
             default -> {
                 int kind = any(0, 15);
-                due(seed, call, "count(" + kind + ")", lead.count(kind), model.count(kind));
+                due("count(" + kind + ")", lead.count(kind), model.count(kind));
             }
         }
     }
 
-    private void judgeAndTell(int seed, int call) {
+    private void judgeAndTell() {
         int many = lead.judge();
-        due(seed, call, "judge()", many, model.judge());
-        for (int kind = 0; kind <= 15; kind++) {
-            due(seed, call, "count(" + kind + ")", lead.count(kind), model.count(kind));
+        due("judge()", many, model.judge());
+        for (int kind = 0; kind <= 15 && calls < CALLS; kind++) {
+            due("count(" + kind + ")", lead.count(kind), model.count(kind));
         }
-        for (int i = 0; i <= many; i++) {
-            for (int what = 0; what < 5; what++) {
-                due(seed, call, "fault(" + i + ", " + what + ")", lead.fault(i, what), model.fault(i, what));
+        // Now and then from somewhere on alone, lest telling uses up all calls.
+        int from = random.nextInt(3) == 0 ? 0 : Math.max(0, many - random.nextInt(8));
+        for (int i = from; i <= many; i++) {
+            for (int what = 0; what < 5 && calls < CALLS; what++) {
+                due("fault(" + i + ", " + what + ")", lead.fault(i, what), model.fault(i, what));
             }
             if (i < many) {
-                kindsSeen |= 1 << lead.fault(i, 0);
+                kindsSeen |= 1 << model.fault(i, 0);
             }
         }
     }
 
-    private static void due(int seed, int call, String what, int got, int want) {
+    private void due(String what, int got, int want) {
+        calls++;
         if (got != want && wrong++ < 20) {
-            System.out.println("seed " + seed + ", call " + call + ": " + what + " answered " + got + ", due is " + want);
+            System.out.println("run " + seed + ", call " + calls + ": "
+                    + what + " answered " + got + ", due is " + want);
         }
     }
 }

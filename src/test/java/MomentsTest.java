@@ -16,14 +16,6 @@ public final class MomentsTest {
         DUE.end();
     }
 
-    private static String times(LeadFaults x) {
-        StringBuilder times = new StringBuilder();
-        for (int moment = 0; moment < x.moments(); moment++) {
-            times.append(moment > 0 ? " " : "").append(x.time(moment));
-        }
-        return times.toString();
-    }
-
     private static void eventTimes() {
         LeadFaults x = new LeadFaults(3);
         DUE.same("moments of nothing", x.moments(), 0);
@@ -34,7 +26,7 @@ public final class MomentsTest {
         x.note(0, 8, 20, 0);
         x.rest(1, 0);
         x.note(1, 999, 20, 0);
-        DUE.same("times rise, each once", times(x), "0 7 8 30 999");
+        DUE.same("times rise, each once", Score.times(x), "0 7 8 30 999");
         DUE.same("moments", x.moments(), 5);
         int[] bad = {-1, 5, LEAST, MOST};
         for (int b : bad) {
@@ -47,26 +39,26 @@ public final class MomentsTest {
         DUE.same("grid without events", x.grid(10), 0);
         DUE.same("moments", x.moments(), 0);
         x.rest(1, 0);
-        DUE.same("one event at 0", times(x), "0");
+        DUE.same("one event at 0", Score.times(x), "0");
         x.note(1, 29, 20, 0);
-        DUE.same("not later than the last", times(x), "0 10 20");
+        DUE.same("not later than the last", Score.times(x), "0 10 20");
         x.note(0, 30, 20, 0);
-        DUE.same("the last itself", times(x), "0 10 20 30");
+        DUE.same("the last itself", Score.times(x), "0 10 20 30");
         DUE.same("grid(13)", x.grid(13), 3);
-        DUE.same("grid 13", times(x), "0 13 26");
+        DUE.same("grid 13", Score.times(x), "0 13 26");
         int[] bad = {-1, 1, 9, -10, 501, LEAST, MOST};
         for (int b : bad) {
             DUE.same("grid(" + b + ")", x.grid(b), LeadFaults.BAD);
         }
-        DUE.same("nothing changed", times(x), "0 13 26");
+        DUE.same("nothing changed", Score.times(x), "0 13 26");
         DUE.same("silent before the first note", x.height(1, 0), LeadFaults.SILENT);
         DUE.same("silent before the first note", x.height(1, 2), LeadFaults.SILENT);
         DUE.same("grid(500)", x.grid(500), 1);
         DUE.same("grid(0)", x.grid(0), 3);
-        DUE.same("grid off", times(x), "0 29 30");
+        DUE.same("grid off", Score.times(x), "0 29 30");
         x.grid(10);
         x.take(0);
-        DUE.same("the last one goes", times(x), "0 10 20");
+        DUE.same("the last one goes", Score.times(x), "0 10 20");
     }
 
     private static void most() {
@@ -89,13 +81,12 @@ public final class MomentsTest {
     }
 
     private static void heights() {
-        int[] base = {0, 2, 4, 5, 7, 9, 11};
         for (int step = 0; step <= 55; step++) {
             LeadFaults x = new LeadFaults(2);
             for (int sharpness = -2; sharpness <= 2; sharpness++) {
                 x.note(1, sharpness + 2, step, sharpness);
-                int due = 12 * (step / 7) + base[step % 7] + sharpness;
-                DUE.same("height of " + step + ", " + sharpness, x.height(1, sharpness + 2), due);
+                DUE.same("height of " + step + ", " + sharpness, x.height(1, sharpness + 2),
+                        Score.height(step, sharpness));
             }
         }
         LeadFaults x = Score.of("C3 - . D3 | . E3 . .");
@@ -121,7 +112,7 @@ public final class MomentsTest {
         }
         DUE.same("before the first", x.height(0, 0), LeadFaults.SILENT);
         for (int i = 0; i < 24; i++) {
-            int due = 12 * (i / 7) + new int[] {0, 2, 4, 5, 7, 9, 11}[i % 7];
+            int due = Score.height(i, 0);
             DUE.same("at event " + i, x.height(0, 2 * i + 1), due);
             DUE.same("just before the next of " + i, i < 23 ? x.height(0, 2 * i + 2) : due, due);
         }
@@ -147,7 +138,8 @@ public final class MomentsTest {
         int[][] bad = {{-1, 0, 0}, {0, 3, 0}, {0, 0, 0}, {1, 0, 0}, {2, 1, 0}, {0, 1, -1}, {0, 1, 2},
             {LEAST, 1, 0}, {0, MOST, 0}, {0, 1, LEAST}, {0, 1, MOST}, {3, 4, 0}};
         for (int[] b : bad) {
-            DUE.same("interval(" + b[0] + ", " + b[1] + ", " + b[2] + ")", x.interval(b[0], b[1], b[2]), LeadFaults.BAD);
+            String call = "interval(" + b[0] + ", " + b[1] + ", " + b[2] + ")";
+            DUE.same(call, x.interval(b[0], b[1], b[2]), LeadFaults.BAD);
         }
     }
 }

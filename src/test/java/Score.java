@@ -3,6 +3,8 @@
  * a NOTE (F#3, Bbb2: octave 3 begins with STEP 21), '-' a REST, '.' no EVENT.
  */
 final class Score {
+    static final int[] LETTER_HEIGHTS = {0, 2, 4, 5, 7, 9, 11};
+
     private Score() {
     }
 
@@ -39,6 +41,19 @@ final class Score {
             sharpness += c == '#' ? 1 : -1;
         }
         return sharpness;
+    }
+
+    static int height(int step, int sharpness) {
+        return 12 * (step / 7) + LETTER_HEIGHTS[step % 7] + sharpness;
+    }
+
+    /** The TIMES of all MOMENTS. */
+    static String times(LeadFaults lead) {
+        StringBuilder times = new StringBuilder();
+        for (int moment = 0; moment < lead.moments(); moment++) {
+            times.append(moment > 0 ? " " : "").append(lead.time(moment));
+        }
+        return times.toString();
     }
 
     /** The FAULTS of one KIND alone, each as 'time:a' or 'time:a-b'. */
