@@ -69,7 +69,8 @@ public final class TermsTest {
     /** "its HEIGHT is 12 times (STEP / 7, cut) and 0, 2, 4, 5, 7, 9, 11 for LETTER 0 .. 6, and its SHARPNESS" */
     private static void heights() {
         int[][] due = {{0, -2, -2}, {0, 0, 0}, {6, 0, 11}, {6, 2, 13}, {7, 0, 12}, {7, -2, 10}, {13, 0, 23},
-            {14, 0, 24}, {48, 0, 83}, {49, 0, 84}, {55, -2, 93}, {55, 0, 95}, {55, 2, 97}, {3, 0, 5}, {2, 1, 5}, {2, 0, 4}};
+            {14, 0, 24}, {48, 0, 83}, {49, 0, 84}, {55, -2, 93}, {55, 0, 95}, {55, 2, 97}, {3, 0, 5}, {2, 1, 5},
+            {2, 0, 4}};
         for (int[] d : due) {
             LeadFaults x = new LeadFaults(2);
             x.note(0, 0, d[0], d[1]);
