@@ -144,8 +144,11 @@ final class Twins {
         for (int i = 0; i < 5; i++) {
             seen.append(x.repeat(i, 999)).append(' ');
         }
+        for (int i = 0; i < 20; i++) {
+            seen.append(x.except(6 + i % 2, 4 * (i / 2))).append(' ');
+        }
         for (int i = 0; i < 21; i++) {
-            seen.append(x.except(13, 900 + i)).append(' ');
+            seen.append(x.except(11, 20 + i)).append(' ');
         }
         return seen.toString();
     }
